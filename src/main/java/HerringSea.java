@@ -1,6 +1,6 @@
 /**
  * A herring fleet on a sea of cells: shoals, boats, gales, sales, yards, texts that judge lots,
- * and shares. No call throws; what can't be done is answered with NONE or false and changes nothing.
+ * and shares. Every call answers; what is refused is answered with NONE or false and changes nothing.
  */
 public final class HerringSea {
     public static final int NONE = -1;
@@ -452,13 +452,20 @@ public final class HerringSea {
     private void gutLotsFrom(int firstLot) {
         for (int number = firstLot; number < lotCount; number++) {
             Lot lot = lotAt(number);
-            Yard yard = lot == null ? null : yardAt(lot.yard);
-            if (yard != null) {
-                yard.gut(lot, softMinutes);
-                curedInAll += lot.cured;
-                spoiltInAll += lot.spoilt;
+            if (lot != null) {
+                gutLot(lot);
             }
         }
+    }
+
+    private void gutLot(Lot lot) {
+        Yard yard = yardAt(lot.yard);
+        if (yard == null) {
+            return;
+        }
+        yard.gut(lot, softMinutes);
+        curedInAll += lot.cured;
+        spoiltInAll += lot.spoilt;
     }
 
     /** The cells and the shoals that move among them. */
@@ -626,7 +633,7 @@ public final class HerringSea {
             doneAt = Math.max(doneAt, begun + MINUTES_A_CRAN);
         }
 
-        int measure(char letter, int now) {
+        int measure(int letter, int now) {
             switch (letter) {
                 case 'c': return cured;
                 case 's': return spoilt;
@@ -692,30 +699,30 @@ public final class HerringSea {
 
     /** Bytes: the tape's, or a brand's text. */
     private static final class Text {
-        private final char[] bytes = new char[MOST_BYTES];
+        private final int[] bytes = new int[MOST_BYTES];
         int length;
 
         static int bytesIn(int word) {
-            int bytes = 0;
+            int found = 0;
             for (int shift = 24; shift >= 0; shift -= 8) {
                 if ((word >>> shift & 255) != 0) {
-                    bytes++;
+                    found++;
                 }
             }
-            return bytes;
+            return found;
         }
 
         void addWord(int word) {
             for (int shift = 24; shift >= 0; shift -= 8) {
                 int next = word >>> shift & 255;
                 if (next != 0 && length < MOST_BYTES) {
-                    bytes[length] = (char) next;
+                    bytes[length] = next;
                     length++;
                 }
             }
         }
 
-        char byteAt(int i) {
+        int byteAt(int i) {
             return i >= 0 && i < MOST_BYTES ? bytes[i] : 0;
         }
 
@@ -750,7 +757,7 @@ public final class HerringSea {
             return due == UNIT_STANDS && depth == 0 ? NONE : text.length;
         }
 
-        private boolean takes(char next) {
+        private boolean takes(int next) {
             if (next == ' ') {
                 // A blank ends a number; elsewhere no digits are left anyway.
                 digitsLeft = 0;
@@ -764,7 +771,7 @@ public final class HerringSea {
             }
         }
 
-        private boolean takesUnit(char next) {
+        private boolean takesUnit(int next) {
             if (next == '(') {
                 depth++;
                 return depth <= MOST_DEPTH;
@@ -773,18 +780,18 @@ public final class HerringSea {
             return next == 'c' || next == 's' || next == 'w' || next == 'a' || next == 'p';
         }
 
-        private boolean takesSign(char next) {
+        private boolean takesSign(int next) {
             due = NUMBER;
             return next == '=' || next == '<' || next == '>';
         }
 
-        private boolean takesFirstDigit(char next) {
+        private boolean takesFirstDigit(int next) {
             due = UNIT_STANDS;
             digitsLeft = MOST_DIGITS - 1;
             return isDigit(next);
         }
 
-        private boolean takesBehindUnit(char next) {
+        private boolean takesBehindUnit(int next) {
             if (isDigit(next)) {
                 digitsLeft--;
                 return digitsLeft >= 0;
@@ -798,7 +805,7 @@ public final class HerringSea {
             return next == '&' || next == '|';
         }
 
-        static boolean isDigit(char next) {
+        static boolean isDigit(int next) {
             return next >= '0' && next <= '9';
         }
     }
@@ -810,8 +817,8 @@ public final class HerringSea {
     private static final class Verdict {
         private int somePartHeld;
         private int allUnitsHold;
-        private char letter;
-        private char sign;
+        private int letter;
+        private int sign;
         private int number;
 
         boolean holds(Text text, Lot lot, int now) {
@@ -826,7 +833,7 @@ public final class HerringSea {
             return (somePartHeld & 1) == 1;
         }
 
-        private void read(char next, Lot lot, int now) {
+        private void read(int next, Lot lot, int now) {
             if (Grammar.isDigit(next)) {
                 number = number * 10 + (next - '0');
                 return;

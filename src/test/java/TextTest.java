@@ -209,6 +209,10 @@ public final class TextTest {
         judge(x, no + "&((((((((" + yes + "))))))))", 0);
         judge(x, no + "|((((((((" + yes + "))))))))", 1);
         judge(x, yes + "|((((((((" + no + "))))))))", 1);
+        judge(x, "(" + yes + "|" + no + ")&" + yes + "&(" + no + ")", 0);
+        judge(x, "(" + yes + ")|(" + no + "&" + no + ")", 1);
+        judge(x, yes + "|(" + no + ")&" + no, 1);
+        judge(x, no + "|(" + no + "|" + no + ")", 0);
     }
 
     private static void letters() {
@@ -253,6 +257,11 @@ public final class TextTest {
         CHECK.due("0 doesn't hold", x.branded(0), 1);
         Tape.brand(x, 3, "c=4");
         CHECK.due("none holds", x.branded(1), -1);
+        Tape.brand(x, 0, "a=3");
+        CHECK.due("the lowest of all", x.branded(0), 0);
+        CHECK.due("another lot's own night", x.branded(1), -1);
+        Tape.brand(x, 0, "a = 1 & c = 3");
+        CHECK.due("another lot's own night", x.branded(1), 0);
         CHECK.due("branded(2)", x.branded(2), -1);
         CHECK.due("branded(-1)", x.branded(-1), -1);
         CHECK.due("branded(400)", x.branded(400), -1);
