@@ -17,6 +17,7 @@ public final class CellEdgesTest {
         quarterIsCut();
         quarterIsOfWhatIsBehindTheHauls();
         quartersGoAtOnce();
+        eachCellHasItsNext();
         atTheRimItStays();
         rimDoesNotWrapAround();
         cellsHave10000AtMost();
@@ -190,6 +191,34 @@ public final class CellEdgesTest {
             CHECK.due("what came in does not go on, way " + way, x.cell(14 + step, 0), 6);
             CHECK.due("none is two cells off, way " + way, x.cell(14 + 2 * step, 0), 0);
         }
+    }
+
+    private static void eachCellHasItsNext() {
+        int[] dx = {0, 1, -1, 0, 0};
+        int[] dy = {0, 0, 0, 1, -1};
+        for (int way = 0; way <= 4; way++) {
+            for (int cell = 0; cell < 36; cell++) {
+                int x = cell % 6 + dx[way];
+                int y = cell / 6 + dy[way];
+                boolean stays = way == 0 || x < 0 || x > 5 || y < 0 || y > 5;
+                HerringSea sea = new HerringSea();
+                sea.drift(way);
+                sea.shoal(cell, 40);
+                sea.night(false);
+                CHECK.due("way " + way + ", stay in " + cell, sea.cell(cell, 0), stays ? 40 : 30);
+                CHECK.due("way " + way + ", go from " + cell, sea.cell(6 * y + x, 0), stays ? outside(way, cell) : 10);
+                CHECK.due("in the sea", sea.count(4), 40);
+            }
+        }
+    }
+
+    /** What is in the cell that a wrap-around would reach: the same one (way 0), none such (beyond the rows), or 0. */
+    private static int outside(int way, int cell) {
+        if (way == 0) {
+            return 40;
+        }
+        int reached = cell + (way == 1 ? 1 : way == 2 ? -1 : way == 3 ? 6 : -6);
+        return reached < 0 || reached > 35 ? -1 : 0;
     }
 
     private static void atTheRimItStays() {

@@ -10,6 +10,7 @@ public final class TextEdgesTest {
     public static void main(String[] args) {
         highestByteFirst();
         bytesOf0AreLeftOut();
+        eachByteOfTheTwentyCounts();
         tapeHas200BytesAtMost();
         feedBeyond200ChangesNothing();
         endKeepsTheFirstBytes();
@@ -52,6 +53,24 @@ public final class TextEdgesTest {
         CHECK.due("c=1234", x.fault(), -1);
         CHECK.due("five zeros", x.feed(0, 0, 0, 0, 0), 6);
         CHECK.due("twenty bytes", x.feed(-1, LEAST | 0x010101, MOST, 0x01010101, 0x20202020), 26);
+    }
+
+    private static void eachByteOfTheTwentyCounts() {
+        for (int place = 0; place < 20; place++) {
+            for (int value : new int[] {1, 2, 128, 255}) {
+                int[] words = new int[5];
+                words[place / 4] = value << (24 - 8 * (place % 4));
+                HerringSea x = new HerringSea();
+                String call = "byte " + value + " at place " + place;
+                CHECK.due(call, x.feed(words[0], words[1], words[2], words[3], words[4]), 1);
+                x.end(0);
+                blanks(x, 199);
+                CHECK.due(call + " is the 200th", x.feed(words[0], words[1], words[2], words[3], words[4]), 200);
+                CHECK.due(call + " is the fault", x.fault(), 199);
+                CHECK.due(call + " is the 201st", x.feed(words[0], words[1], words[2], words[3], words[4]), -1);
+                CHECK.due(call + ", bytes", x.count(11), 200);
+            }
+        }
     }
 
     /** A tape of so many blanks. */
@@ -367,6 +386,15 @@ public final class TextEdgesTest {
         judged("(1|0)&(0|1)", 1);
         judged("(0|1)&(1&0)", 0);
         judged("(1&0)|1", 1);
+        judged("1|(0)", 1);
+        judged("0|(0)", 0);
+        judged("0&(1)", 0);
+        judged("0&(1)|0", 0);
+        judged("1|(0&((0)))", 1);
+        judged("0&((1)|1)", 0);
+        judged("(1|((0)))&1", 1);
+        judged("(0&((1)))|0", 0);
+        judged("1|0&(((1)))&0", 1);
         judged("(0)|(0)|(1)", 1);
         judged("(1)&(1)&(0)", 0);
         judged("((1|0)&(1|0))", 1);
