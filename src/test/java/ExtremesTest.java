@@ -9,8 +9,12 @@ public final class ExtremesTest {
         Integer.MAX_VALUE,
     };
 
+    /** A full sea has had almost 400 of the 512 calls for which an object is used. */
+    private static final int CALLS_EACH = 100;
+
     public static void main(String[] args) throws Exception {
         Check check = new Check("ExtremesTest");
+        fullIsFull(check);
         for (Method method : HerringSea.class.getDeclaredMethods()) {
             if (!Modifier.isPublic(method.getModifiers())) {
                 continue;
@@ -23,6 +27,10 @@ public final class ExtremesTest {
             HerringSea fresh = new HerringSea();
             HerringSea full = full();
             for (int n = 0; n < all; n++) {
+                if (n % CALLS_EACH == CALLS_EACH - 1) {
+                    fresh = new HerringSea();
+                    full = full();
+                }
                 Object[] arguments = arguments(method, n);
                 call(check, method, fresh, arguments);
                 call(check, method, full, arguments);
@@ -52,6 +60,15 @@ public final class ExtremesTest {
         }
     }
 
+    private static void fullIsFull(Check check) {
+        HerringSea full = full();
+        check.due("nights of a full sea", full.count(0), 300);
+        check.due("boats", full.count(1), 12);
+        check.due("yards", full.count(2), 4);
+        check.due("lots", full.count(3), 400);
+        check.due("bytes", full.count(11), 200);
+    }
+
     /** All that the document limits, at its limit. */
     private static HerringSea full() {
         HerringSea x = new HerringSea();
@@ -59,17 +76,14 @@ public final class ExtremesTest {
             x.boat(60);
             x.go(n, 3 * n);
             x.share(n, 7, 100);
+            x.shoal(3 * n, 10000);
         }
         for (int n = 0; n < 4; n++) {
             x.yard(1 + n, 500);
             x.bid(n, 100);
             Tape.brand(x, n, "((((((((c=99999))))))))|s>0&w<5|a=1&(p=100)");
         }
-        x.drift(1);
         for (int n = 0; n < 300; n++) {
-            for (int c = 0; c < 36; c++) {
-                x.shoal(c, 10000);
-            }
             x.night(n % 5 == 0);
         }
         for (int n = 0; n < 10; n++) {

@@ -1,8 +1,12 @@
 import java.util.Random;
 
-/** Long runs of calls, each answered by the program and by the model; the seeds are fixed. */
+/**
+ * Long runs of calls, each answered by the program and by the model; the seeds are fixed. No run has more
+ * calls than an object is used for: each run asks of what came about some of all there is to ask.
+ */
 public final class ModelTest {
     private static final Check CHECK = new Check("ModelTest");
+    private static final int MOST_CALLS = 512;
     private static final String[] PIECES = {
         "c", "s", "w", "a", "p", "=", "<", ">", "(", ")", "&", "|", " ", "0", "7", "12", "99999", "123456",
         "c=1", "s<5", "w > 20", "a<9", "p=3", "x", "\u00e9", "&", "|", "(", ")", "((((", "))))", "&(", ")|",
@@ -18,10 +22,10 @@ public final class ModelTest {
     }
 
     public static void main(String[] args) {
-        for (int seed = 0; seed < 3000 && CHECK.isClean(); seed++) {
+        for (int seed = 0; seed < 12000 && CHECK.isClean(); seed++) {
             new ModelTest(seed).mixedRun(seed);
         }
-        for (int seed = 0; seed < 300 && CHECK.isClean(); seed++) {
+        for (int seed = 0; seed < 600 && CHECK.isClean(); seed++) {
             new ModelTest(1_000_000L + seed).season(seed);
         }
         for (int seed = 0; seed < 30000 && CHECK.isClean(); seed++) {
@@ -62,15 +66,16 @@ public final class ModelTest {
     private void mixedRun(int seed) {
         String at = "run " + seed + " ";
         int places = 1 + random.nextInt(36);
-        for (int n = 0; n < 500 && CHECK.isClean(); n++) {
-            String call = at + "call " + n + " ";
+        int changing = 50 + random.nextInt(400);
+        while (calls < changing && CHECK.isClean()) {
+            String call = at + "call " + calls + " ";
             if (random.nextInt(3) == 0) {
                 ask(call);
             } else {
                 change(call, places);
             }
         }
-        compareAll(at);
+        askWithTheRest(at);
     }
 
     private void change(String at, int places) {
@@ -181,11 +186,11 @@ public final class ModelTest {
                 change(at + n, 36);
             }
             due(at + "night", sea.night(n % 7 == 0), model.night(n % 7 == 0));
-            if (calls > 500) {
+            if (calls > MOST_CALLS - 40) {
                 break;
             }
         }
-        compareAll(at);
+        askWithTheRest(at);
     }
 
     private void text(int seed) {
@@ -200,25 +205,10 @@ public final class ModelTest {
         }
     }
 
-    private void compareAll(String at) {
-        for (int what = -1; what <= 12; what++) {
-            due(at + "count " + what, sea.count(what), model.count(what));
+    private void askWithTheRest(String at) {
+        while (calls < MOST_CALLS && CHECK.isClean()) {
+            ask(at + "call " + calls + " ");
         }
-        for (int c = -1; c <= 36; c++) {
-            due(at + "cell " + c, sea.cell(c, 0), model.cell(c, 0));
-            due(at + "cell " + c, sea.cell(c, 1), model.cell(c, 1));
-        }
-        for (int b = -1; b <= 12; b++) {
-            for (int what = -1; what <= 8; what++) {
-                due(at + "told " + b + " " + what, sea.told(b, what), model.told(b, what));
-                due(at + "coins " + b + " " + what, sea.coins(b, what), model.coins(b, what));
-            }
-        }
-        for (int lot = -1; lot <= 400; lot++) {
-            for (int what = -1; what <= 11; what++) {
-                due(at + "lot " + lot + " " + what, sea.lot(lot, what), model.lot(lot, what));
-            }
-            due(at + "branded " + lot, sea.branded(lot), model.branded(lot));
-        }
+        CHECK.holds(at + "has more than " + MOST_CALLS + " calls", calls <= MOST_CALLS);
     }
 }
